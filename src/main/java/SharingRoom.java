@@ -1062,10 +1062,10 @@ public final class SharingRoom {
     /** All that was shown to all, as bytes. */
     private static final class Board {
         /**
-         * Seven deals and seven extracts of 16 bytes, 42 complaints of 3 and as many answers of 7
-         * (nobody complains about itself), 49 accusations and 49 openings of 7.
+         * Seven deals and seven extracts of 16 bytes, 14 complaints of 3 and as many answers of 7
+         * (each party is bad to one and slanders one), 49 accusations and 49 openings of 7.
          */
-        private static final int MOST = 14 * 16 + 42 * 3 + 42 * 7 + 98 * 7;
+        private static final int MOST = 14 * 16 + 14 * 3 + 14 * 7 + 98 * 7;
 
         private final byte[] bytes = new byte[MOST];
         private final Sha256 sha = new Sha256();

@@ -234,6 +234,12 @@ public final class RoundsTest {
             Rooms.rounds(x, 6);
             check.equal("always fits", x.state(), 2);
         }
+        SharingRoom y = new SharingRoom();
+        y.begin(1, 3, 1);
+        y.give(1, 0, 0, 2);
+        y.give(2, 0, 0, 29);
+        Rooms.done(y);
+        check.equal("(7, 7) and (7, 36) give the neutral one", y.key(), 4000);
     }
 
     private void promise16Share() {

@@ -67,6 +67,14 @@ public final class SetUpTest {
         check.equal("nobody is out", x.parties(0), 7);
         check.equal("no coefficients", x.key(), 1);
         check.equal("no faults: the board has deals and extracts alone", x.board(), 36);
+        x.begin(0, 3, 2);
+        x.fault(2, 5, 0);
+        Rooms.done(x);
+        check.equal("accused", x.parties(1), 2);
+        check.equal("opened", x.parties(2), 2);
+        x.begin(0, 3, 2);
+        check.equal("nobody is accused", x.parties(1), 0);
+        check.equal("nobody is opened", x.parties(2), 0);
     }
 
     private void promise7Give() {
