@@ -1,5 +1,4 @@
 import java.io.ByteArrayOutputStream;
-import java.math.BigInteger;
 import java.nio.ByteBuffer;
 import java.security.MessageDigest;
 import java.security.NoSuchAlgorithmException;
@@ -14,8 +13,6 @@ import java.util.TreeSet;
  * are held as exponents, sets as sets, polynomials are written out.
  */
 final class Model {
-    private static final int[] ORDERS = {1019, 31};
-
     private int field;
     private final TreeMap<Integer, Integer> points = new TreeMap<>();
 
@@ -49,20 +46,20 @@ final class Model {
     }
 
     int point(int x, int y) {
-        argument(x >= 1 && x < sizeOf(field) && y >= 0 && y < sizeOf(field));
+        argument(x >= 1 && x < Slow.sizeOf(field) && y >= 0 && y < Slow.sizeOf(field));
         state(!points.containsKey(x) && points.size() < 12);
         points.put(x, y);
         return points.size();
     }
 
     int combine(int x) {
-        argument(x >= 0 && x < sizeOf(field));
+        argument(x >= 0 && x < Slow.sizeOf(field));
         state(!points.isEmpty());
-        return evaluate(field, interpolate(field, points), x);
+        return Slow.evaluate(field, Slow.interpolate(field, points), x);
     }
 
     int degree() {
-        int[] polynomial = interpolate(field, points);
+        int[] polynomial = Slow.interpolate(field, points);
         int count = polynomial.length;
         while (count > 0 && polynomial[count - 1] == 0) {
             count--;
@@ -70,85 +67,14 @@ final class Model {
         return count;
     }
 
-    private static int sizeOf(int f) {
-        return f == 0 ? 256 : ORDERS[f - 1];
-    }
-
-    private static int times(int f, int u, int v) {
-        if (f != 0) {
-            return u * v % sizeOf(f);
-        }
-        int product = 0;
-        for (int bit = 7; bit >= 0; bit--) {
-            product = product << 1 ^ (v >> bit & 1) * u;
-            product ^= (product >> 8) * 0x11b;
-        }
-        return product;
-    }
-
-    private static int minus(int f, int u, int v) {
-        return f == 0 ? u ^ v : Math.floorMod(u - v, sizeOf(f));
-    }
-
-    private static int plus(int f, int u, int v) {
-        return f == 0 ? u ^ v : (u + v) % sizeOf(f);
-    }
-
-    private static int quotient(int f, int u, int v) {
-        for (int w = 0; w < sizeOf(f); w++) {
-            if (times(f, w, v) == u) {
-                return w;
-            }
-        }
-        throw new AssertionError("division by 0");
-    }
-
-    /** Lagrange's polynomials, written out and added up. */
-    private static int[] interpolate(int f, Map<Integer, Integer> through) {
-        int[] sum = new int[through.size()];
-        for (int xk : through.keySet()) {
-            int[] basis = {1};
-            int below = 1;
-            for (int xj : through.keySet()) {
-                if (xj != xk) {
-                    int[] longer = new int[basis.length + 1];
-                    for (int k = 0; k < basis.length; k++) {
-                        longer[k + 1] = plus(f, longer[k + 1], basis[k]);
-                        longer[k] = minus(f, longer[k], times(f, basis[k], xj));
-                    }
-                    basis = longer;
-                    below = times(f, below, minus(f, xk, xj));
-                }
-            }
-            int factor = quotient(f, through.get(xk), below);
-            for (int k = 0; k < basis.length; k++) {
-                sum[k] = plus(f, sum[k], times(f, basis[k], factor));
-            }
-        }
-        return sum;
-    }
-
-    private static int evaluate(int f, int[] polynomial, int x) {
-        int value = 0;
-        int power = 1;
-        for (int coefficient : polynomial) {
-            value = plus(f, value, times(f, coefficient, power));
-            power = times(f, power, x);
-        }
-        return value;
-    }
-
     // Groups: an element is its exponent to the base g.
 
     private int q() {
-        return ORDERS[group];
+        return Slow.sizeOf(group + 1);
     }
 
     private int tell(int exponent) {
-        if (group == 0) {
-            return BigInteger.valueOf(4).modPow(BigInteger.valueOf(exponent), BigInteger.valueOf(2039)).intValue();
-        }
-        return Curve.MULTIPLES[exponent];
+        return Slow.powerOfG(group, exponent);
     }
 
     private int exponentOf(int told) {
@@ -158,38 +84,6 @@ final class Model {
             }
         }
         throw new AssertionError("not in the group");
-    }
-
-    private static final class Curve {
-        static final int[] MULTIPLES = multiples();
-
-        private static int[] multiples() {
-            int[] all = new int[31];
-            all[0] = 4000;
-            all[1] = 64 * 2 + 12;
-            for (int k = 2; k < 31; k++) {
-                all[k] = sum(all[k - 1], all[1]);
-            }
-            return all;
-        }
-
-        /** The third point on the line, found by trying all, and mirrored. */
-        private static int sum(int u, int v) {
-            int x1 = u / 64;
-            int y1 = u % 64;
-            int x2 = v / 64;
-            int y2 = v % 64;
-            for (int slope = 0; slope < 43; slope++) {
-                boolean chord = x1 != x2 && (slope * (x2 - x1) - (y2 - y1)) % 43 == 0;
-                boolean tangent = u == v && (2 * y1 * slope - 3 * x1 * x1) % 43 == 0;
-                if (chord || tangent) {
-                    int x3 = Math.floorMod(slope * slope - x1 - x2, 43);
-                    int y3 = Math.floorMod(-(y1 + slope * (x3 - x1)), 43);
-                    return 64 * x3 + y3;
-                }
-            }
-            return 4000;
-        }
     }
 
     // The room before its rounds.
@@ -282,13 +176,13 @@ final class Model {
     }
 
     private int[] trueNumbers(int i, int j, int added) {
-        int first = evaluate(group + 1, coefficients[i][0], j);
-        return new int[] {(first + added) % q(), evaluate(group + 1, coefficients[i][1], j)};
+        int first = Slow.evaluate(group + 1, coefficients[i][0], j);
+        return new int[] {(first + added) % q(), Slow.evaluate(group + 1, coefficients[i][1], j)};
     }
 
     /** In exponents: whether u + v log h is the polynomial of what i committed to, at j. */
     private boolean fits(int i, int j, int[] numbers) {
-        int due = evaluate(group + 1, committed.get(i), j);
+        int due = Slow.evaluate(group + 1, committed.get(i), j);
         return (numbers[0] + numbers[1] * exponentOfH) % q() == due;
     }
 
@@ -395,7 +289,7 @@ final class Model {
             for (int i : qualified) {
                 int[] numbers = sent.get(pair(i, j));
                 if (works(j) && extracted.containsKey(i) && fits(i, j, numbers)
-                        && numbers[0] != evaluate(group + 1, extracted.get(i), j)) {
+                        && numbers[0] != Slow.evaluate(group + 1, extracted.get(i), j)) {
                     accused.add(i);
                     show(6, j, i);
                     showPairs(false, numbers);
@@ -427,7 +321,7 @@ final class Model {
             }
             if (taken.size() == t) {
                 opened.add(i);
-                keyExponent += evaluate(group + 1, interpolate(group + 1, taken), 0);
+                keyExponent += Slow.evaluate(group + 1, Slow.interpolate(group + 1, taken), 0);
             } else {
                 failed = true;
             }
@@ -523,7 +417,7 @@ final class Model {
 
     int recover(int who) {
         state(state() == 2);
-        return evaluate(group + 1, interpolate(group + 1, sharesOf(who)), 0);
+        return Slow.evaluate(group + 1, Slow.interpolate(group + 1, sharesOf(who)), 0);
     }
 
     void refresh() {
@@ -532,7 +426,7 @@ final class Model {
             int[] polynomial = coefficients[i][0].clone();
             polynomial[0] = 0;
             for (int j = 1; j <= n && crashes[i] == 8; j++) {
-                shares.get(j)[0] = (shares.get(j)[0] + evaluate(group + 1, polynomial, j)) % q();
+                shares.get(j)[0] = (shares.get(j)[0] + Slow.evaluate(group + 1, polynomial, j)) % q();
             }
         }
         for (int[] both : shares.values()) {
@@ -553,9 +447,9 @@ final class Model {
                 int[] polynomial = new int[s];
                 System.arraycopy(coefficients[i][0], 0, polynomial, 0, s);
                 polynomial[0] = old.get(i);
-                got.put(i, evaluate(group + 1, polynomial, j));
+                got.put(i, Slow.evaluate(group + 1, polynomial, j));
             }
-            fresh.put(j, new int[] {evaluate(group + 1, interpolate(group + 1, got), 0), 0});
+            fresh.put(j, new int[] {Slow.evaluate(group + 1, Slow.interpolate(group + 1, got), 0), 0});
         }
         shares = fresh;
         n = m;
