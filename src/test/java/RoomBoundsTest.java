@@ -131,7 +131,22 @@ public final class RoomBoundsTest {
                 Story dueOther = Story.of("new").then(State::somePoints).then(x -> x.begin(1, size, size));
                 bounds.sameFuture(state + ": begin", state.story().then(x -> x.begin(1, size, size)), dueOther);
             }
+            beginWithIdleOnes(state);
         }
+    }
+
+    /** Those that do nothing in the new room must not be taken to have done what they did before. */
+    private void beginWithIdleOnes(State state) {
+        Story again = state.story().then(x -> x.begin(0, 3, 2));
+        Story due = Story.of("new").then(State::somePoints).then(x -> x.begin(0, 3, 2));
+        for (int round = 1; round <= 5; round += 4) {
+            int r = round;
+            bounds.sameFuture(state + ": begin, crash in " + r, again.then(x -> x.crash(1, r)),
+                    due.then(x -> x.crash(1, r)));
+        }
+        Bounds.each(0, KINDS - 1, kind ->
+                bounds.sameFuture(state + ": begin, fault " + kind, again.then(x -> x.fault(1, kind, 2)),
+                        due.then(x -> x.fault(1, kind, 2))));
     }
 
     /** Promise 7: "becomes this modulo q (0 .. q - 1)". */

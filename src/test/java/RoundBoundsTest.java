@@ -286,25 +286,35 @@ public final class RoundBoundsTest {
 
     /** 4 JUDGE: "or one that was not answered". */
     private void oneAnswerMissing() {
-        SharingRoom x = Rooms.many(7, 7);
-        x.fault(7, SLANDERS, 4);
-        x.fault(4, DUMB, 0);
-        Rooms.rounds(x, 4);
-        check.equal("one complaint of threshold 7", x.parties(0), 127 - 8);
+        for (int i = 1; i <= 7; i++) {
+            for (int j = 1; j <= 7; j++) {
+                if (i != j) {
+                    SharingRoom x = Rooms.many(7, 7);
+                    x.fault(j, SLANDERS, i);
+                    x.fault(i, DUMB, 0);
+                    Rooms.rounds(x, 4);
+                    check.equal("one complaint of threshold 7", x.parties(0), 127 - (1 << i - 1));
+                }
+            }
+        }
         SharingRoom y = Rooms.many(7, 7);
         y.fault(4, DUMB, 0);
         Rooms.rounds(y, 4);
         check.equal("no complaint: none is missing", y.parties(0), 127);
     }
 
-    /** 4 JUDGE: "or by what does not fit": one of many answers, the first and the last. */
+    /** 4 JUDGE: "or by what does not fit": one answer is enough, of each to each. */
     private void oneAnswerWrong() {
-        for (int j = 2; j <= 7; j++) {
-            SharingRoom x = Rooms.many(7, 7);
-            x.fault(j, SLANDERS, 1);
-            x.fault(1, LIES, 0);
-            Rooms.rounds(x, 4);
-            check.equal("a lie to " + j, x.parties(0), 126);
+        for (int i = 1; i <= 7; i++) {
+            for (int j = 1; j <= 7; j++) {
+                if (i != j) {
+                    SharingRoom x = Rooms.many(7, 7);
+                    x.fault(j, SLANDERS, i);
+                    x.fault(i, LIES, 0);
+                    Rooms.rounds(x, 4);
+                    check.equal("a lie of " + i + " to " + j, x.parties(0), 127 - (1 << i - 1));
+                }
+            }
         }
         SharingRoom bad = Rooms.many(7, 7);
         bad.fault(1, BAD, 7);

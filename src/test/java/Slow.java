@@ -4,6 +4,7 @@ import java.util.Map;
 /** Fields and groups by other ways than the program: by trying all, and by the Java library. */
 final class Slow {
     private static final int[] ORDERS = {1019, 31};
+    private static final int[] SQUARES = squares();
     private static final int[] MULTIPLES = multiples();
 
     private Slow() {
@@ -79,10 +80,16 @@ final class Slow {
 
     /** What is told of the element of a group that is g taken so many times. */
     static int powerOfG(int group, int exponent) {
-        if (group == 0) {
-            return BigInteger.valueOf(4).modPow(BigInteger.valueOf(exponent), BigInteger.valueOf(2039)).intValue();
+        return group == 0 ? SQUARES[exponent] : MULTIPLES[exponent];
+    }
+
+    private static int[] squares() {
+        int[] all = new int[1019];
+        BigInteger modulus = BigInteger.valueOf(2039);
+        for (int k = 0; k < all.length; k++) {
+            all[k] = BigInteger.valueOf(4).modPow(BigInteger.valueOf(k), modulus).intValue();
         }
-        return MULTIPLES[exponent];
+        return all;
     }
 
     private static int[] multiples() {

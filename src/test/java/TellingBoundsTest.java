@@ -475,9 +475,12 @@ public final class TellingBoundsTest {
             check.equal("1018 and 256, byte " + k, x.told(from + k), due[k]);
         }
         x.begin(1, 1, 1);
-        x.next();
-        check.equal("4000, the higher byte", x.told(2), 15);
-        check.equal("4000, the lower byte", x.told(3), 160);
+        x.give(1, 0, 1, 1);
+        Rooms.rounds(x, 5);
+        check.equal("64 * 21 + 18, the higher byte", x.told(2), 5);
+        check.equal("64 * 21 + 18, the lower byte", x.told(3), 82);
+        check.equal("4000, the higher byte", x.told(6), 15);
+        check.equal("4000, the lower byte", x.told(7), 160);
     }
 
     /** Promise 19: "Word i (0 .. 7)", "IndexOutOfBoundsException if there is none such." */
