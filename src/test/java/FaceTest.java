@@ -6,7 +6,10 @@ import java.lang.reflect.Modifier;
 import java.nio.file.Files;
 import java.nio.file.Path;
 import java.util.Arrays;
+import java.util.List;
 import java.util.TreeSet;
+import java.util.regex.Matcher;
+import java.util.regex.Pattern;
 
 /** The public face of the document, and the rules of LANGUAGE.md that can be seen from outside. */
 public final class FaceTest {
@@ -38,6 +41,11 @@ public final class FaceTest {
         "->", "::", "finally", "synchronized", "assert ", "try ", "getMessage", "Exact(", "import static",
         "System.out", "Random", "Thread", "package "
     };
+    private static final Pattern LIBRARY = Pattern.compile("\\b(Arrays|System|Integer|Long|Math|String|List)\\.\\w+");
+    private static final List<String> USED =
+            List.of("Arrays.fill", "System.arraycopy", "Integer.bitCount", "Math.floorMod");
+    private static final String IMPORT = "import java.util.Arrays;";
+    private static final int LONGEST_METHOD = 60;
 
     private final Check check = new Check();
 
@@ -135,7 +143,25 @@ public final class FaceTest {
         }
         for (String line : text.split("\n")) {
             if (line.startsWith("import")) {
-                check.same("rule 4", line, "import java.util.Arrays;");
+                check.same("rule 4", line, IMPORT);
+            }
+        }
+        Matcher library = LIBRARY.matcher(text.replace(IMPORT, ""));
+        while (library.find()) {
+            check.same("rule 4: " + library.group(), String.valueOf(USED.contains(library.group())), "true");
+        }
+        lengths(text.split("\n"));
+    }
+
+    /** A method begins where a line at its depth opens a brace, and ends with the next one that closes it. */
+    private void lengths(String[] lines) {
+        int start = 0;
+        for (int k = 0; k < lines.length; k++) {
+            if (lines[k].matches("( {4}| {8})\\w.*\\{") || lines[k].matches("( {4}| {8})\\w.*\\)")) {
+                start = k;
+            } else if (lines[k].equals("    }") || lines[k].equals("        }")) {
+                check.same("rule 11: " + lines[start], String.valueOf(k - start < LONGEST_METHOD), "true");
+                start = k;
             }
         }
     }

@@ -6,6 +6,10 @@ public final class RandomRunsTest {
     private static final int RUNS = 400;
     private static final int CALLS = 512;
 
+    /** Random's first numbers are much the same for seeds that are near to one another. */
+    private static final long SCATTER = 0x9E3779B97F4A7C15L;
+
+    private final int manner;
     private final Random random;
     private final SharingRoom room = new SharingRoom();
     private final Model model = new Model();
@@ -13,7 +17,8 @@ public final class RandomRunsTest {
     private int calls;
 
     private RandomRunsTest(long seed) {
-        random = new Random(seed);
+        manner = (int) (seed % 8);
+        random = new Random(seed * SCATTER);
     }
 
     public static void main(String[] args) {
@@ -36,7 +41,6 @@ public final class RandomRunsTest {
 
     private void run() {
         // Each run leans to rooms, to points, or to calls of all kinds with wrong arguments.
-        int manner = random.nextInt(8);
         while (calls < CALLS) {
             if (manner == 0) {
                 somePoint();
